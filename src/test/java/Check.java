@@ -1,0 +1,52 @@
+/** What the tests share: counting wrong answers, and making objects with a net. */
+final class Check {
+    /** Places 0 to 3; a stretch of each kind, and two ways home that differ in all they can. */
+    static final String FOUR = "n4;s03914;m01190;p12250;s23313;m13421";
+
+    private int wrong = 0;
+    private int asked = 0;
+    private String part = "";
+
+    void part(String name) {
+        part = name;
+    }
+
+    void due(String call, long got, long want) {
+        asked++;
+        if (got != want) {
+            wrong++;
+            System.out.println(part + ": " + call + " answered " + got + ", due is " + want);
+        }
+    }
+
+    void dueTrue(String what, boolean holds) {
+        due(what, holds ? 1 : 0, 1);
+    }
+
+    void end() {
+        System.out.println(asked + " answers, " + wrong + " wrong");
+        if (wrong != 0 || asked == 0) {
+            System.exit(1);
+        }
+    }
+
+    static void write(HomeByFour x, int sheet, int lane, int... cells) {
+        x.sheet(sheet, lane, cells.length);
+        for (int i = 0; i < cells.length; i++) {
+            x.put(sheet, i, cells[i]);
+        }
+    }
+
+    static int netOf(HomeByFour x, String text) {
+        write(x, 0, 0, text.chars().toArray());
+        return x.net(0, 0, 0, text.length());
+    }
+
+    static HomeByFour withNet(String text) {
+        HomeByFour x = new HomeByFour();
+        if (netOf(x, text) < 1) {
+            throw new IllegalStateException("no net by " + text);
+        }
+        return x;
+    }
+}
