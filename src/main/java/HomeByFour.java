@@ -593,13 +593,13 @@ public final class HomeByFour {
             int at = HEAD + k * PART + 2;
             int one = digitAt(at);
             int other = digitAt(at + 1);
-            int length = digitAt(at + 2);
+            int extent = digitAt(at + 2);
             int sights = digitAt(at + 3);
             int danger = digitAt(at + 4);
             switch (codeAt(at - 1)) {
-                case 'm': return new Muddy(k, one, other, length, sights, danger);
-                case 'p': return new Steep(k, one, other, length, sights, danger);
-                default: return new Stretch(k, one, other, length, sights, danger);
+                case 'm': return new Muddy(k, one, other, extent, sights, danger);
+                case 'p': return new Steep(k, one, other, extent, sights, danger);
+                default: return new Stretch(k, one, other, extent, sights, danger);
             }
         }
 

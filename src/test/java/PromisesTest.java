@@ -582,6 +582,11 @@ public final class PromisesTest {
         x = Check.withNet("n2" + ";s01100".repeat(8));
         dueOfTrails(x, 5, 200, 8 + 512 + 32768, 0);
         dueOfTrails(x, 5, 3, 8 + 512, 0);
+        x = Check.withNet("n2;m01100;p01100");
+        x.reading(0, true);
+        dueOfTrails(x, 1, 200, 1, 0);
+        x.reading(1, true);
+        dueOfTrails(x, 3, 200, 6, 0, 0, 1);
     }
 
     private static void dueOfDawdle(HomeByFour x, int n, int place, long upper, long lower) {
@@ -610,6 +615,9 @@ public final class PromisesTest {
         c.due("n 6", x.dawdle(6, 0, 0), LOST);
         c.due("which -1", x.dawdle(0, 0, -1), LOST);
         c.due("which 2", x.dawdle(0, 0, 2), LOST);
+        x = Check.withNet("n7;s06100;s05100");
+        dueOfDawdle(x, 1, 6, 1, 2);
+        c.due("quickest to the seventh", x.quickest(6), 1);
         x = Check.withNet("n3;s01100;s10100;s12100");
         dueOfDawdle(x, 2, 0, 2, 3);
         dueOfDawdle(x, 2, 2, 1, 3);
