@@ -1,14 +1,37 @@
+import java.io.IOException;
+import java.io.UncheckedIOException;
+import java.nio.file.Files;
+import java.nio.file.Path;
+
 /** What the tests share: counting wrong answers, and making objects with a net. */
 final class Check {
     /** Places 0 to 3; a stretch of each kind, and two ways home that differ in all they can. */
     static final String FOUR = "n4;s03914;m01190;p12250;s23313;m13421";
+    private static final Path DOCUMENT = Path.of("../shared/DOC.md");
 
     private int wrong = 0;
     private int asked = 0;
+    private int askedBefore = 0;
     private String part = "";
+    private String document = "";
 
     void part(String name) {
+        endPart();
         part = name;
+    }
+
+    /** Begins the test of a sentence, in words that must stand in the document. */
+    void sentence(String words) {
+        sentence("", words);
+    }
+
+    /** As well, for words that stand there for several calls: of which the test is. */
+    void sentence(String of, String words) {
+        part(of + "\"" + words + "\"");
+        if (!document().contains(words)) {
+            wrong++;
+            System.out.println(part + ": the document does not say so");
+        }
     }
 
     void due(String call, long got, long want) {
@@ -24,10 +47,31 @@ final class Check {
     }
 
     void end() {
+        endPart();
         System.out.println(asked + " answers, " + wrong + " wrong");
         if (wrong != 0 || asked == 0) {
             System.exit(1);
         }
+    }
+
+    /** A part that asks nothing would hold whatever the class did. */
+    private void endPart() {
+        if (!part.isEmpty() && asked == askedBefore) {
+            wrong++;
+            System.out.println(part + ": nothing was asked");
+        }
+        askedBefore = asked;
+    }
+
+    private String document() {
+        if (document.isEmpty()) {
+            try {
+                document = Files.readString(DOCUMENT);
+            } catch (IOException e) {
+                throw new UncheckedIOException(e);
+            }
+        }
+        return document;
     }
 
     static void write(HomeByFour x, int sheet, int lane, int... cells) {
