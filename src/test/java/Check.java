@@ -34,6 +34,18 @@ final class Check {
         }
     }
 
+    /** Runs tests, each even if one ahead of it threw. */
+    void run(Runnable... tests) {
+        for (Runnable test : tests) {
+            try {
+                test.run();
+            } catch (RuntimeException e) {
+                wrong++;
+                System.out.println(part + ": threw " + e);
+            }
+        }
+    }
+
     void due(String call, long got, long want) {
         asked++;
         if (got != want) {

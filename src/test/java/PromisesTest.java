@@ -7,34 +7,35 @@ public final class PromisesTest {
     private static final Check c = new Check();
 
     public static void main(String[] args) {
-        newObject();
-        netAnswers();
-        netFirstFaults();
-        netMakesAnew();
-        ofStretch();
-        dueAndLaw();
-        friend();
-        close();
-        walk();
-        walkRefusals();
-        walkCosts();
-        safe();
-        quickestAndVia();
-        best();
-        bestOfSeveral();
-        safest();
-        worth();
-        readingAndBack();
-        trails();
-        dawdle();
-        sheetAndLose();
-        put();
-        cell();
-        copy();
-        tellAndSing();
-        as();
-        fault();
-        many();
+        c.run(
+            () -> newObject(),
+            () -> netAnswers(),
+            () -> netFirstFaults(),
+            () -> netMakesAnew(),
+            () -> ofStretch(),
+            () -> dueAndLaw(),
+            () -> friend(),
+            () -> close(),
+            () -> walk(),
+            () -> walkRefusals(),
+            () -> walkCosts(),
+            () -> safe(),
+            () -> quickestAndVia(),
+            () -> best(),
+            () -> bestOfSeveral(),
+            () -> safest(),
+            () -> worth(),
+            () -> readingAndBack(),
+            () -> trails(),
+            () -> dawdle(),
+            () -> sheetAndLose(),
+            () -> put(),
+            () -> cell(),
+            () -> copy(),
+            () -> tellAndSing(),
+            () -> as(),
+            () -> fault(),
+            () -> many());
         c.end();
     }
 

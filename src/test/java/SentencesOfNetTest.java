@@ -3,31 +3,32 @@ public final class SentencesOfNetTest extends Sentences {
     private static final String EIGHT = "n3;s01100;m12299;p20350;s10401;m21510;p02999;s01899;m12777";
 
     public static void main(String[] args) {
-        placesDigit();
-        schoolAndHome();
-        howManyStretches();
-        partBegins();
-        letters();
-        twoPlaces();
-        digitsOfPart();
-        firstFault();
-        samePlaceTwice();
-        tenthStretch();
-        endsTooSoon();
-        codes();
-        kinds();
-        allAnew();
-        takes();
-        shared();
-        sharedHasNoDanger();
-        newObject();
-        netAnswers();
-        netRefusals();
-        ofStretch();
-        due();
-        law();
-        friend();
-        close();
+        c.run(
+            () -> placesDigit(),
+            () -> schoolAndHome(),
+            () -> howManyStretches(),
+            () -> partBegins(),
+            () -> letters(),
+            () -> twoPlaces(),
+            () -> digitsOfPart(),
+            () -> firstFault(),
+            () -> samePlaceTwice(),
+            () -> tenthStretch(),
+            () -> endsTooSoon(),
+            () -> codes(),
+            () -> kinds(),
+            () -> allAnew(),
+            () -> takes(),
+            () -> shared(),
+            () -> sharedHasNoDanger(),
+            () -> newObject(),
+            () -> netAnswers(),
+            () -> netRefusals(),
+            () -> ofStretch(),
+            () -> due(),
+            () -> law(),
+            () -> friend(),
+            () -> close());
         c.end();
     }
 

@@ -3,29 +3,30 @@ public final class SentencesOfSheetsTest extends Sentences {
     private static final String KINDS = "n2;s01500;m01500;p01500";
 
     public static void main(String[] args) {
-        nothingAtFirst();
-        rowsOfCells();
-        cutToLane();
-        traceWraps();
-        tellingOfStretches();
-        singing();
-        sheet();
-        sheetRefusals();
-        lose();
-        put();
-        putRefusals();
-        cell();
-        cellLost();
-        copy();
-        copyAsTheyWere();
-        copyRefusals();
-        tell();
-        sing();
-        as();
-        trace();
-        faultOfLatest();
-        faultAtFirst();
-        many();
+        c.run(
+            () -> nothingAtFirst(),
+            () -> rowsOfCells(),
+            () -> cutToLane(),
+            () -> traceWraps(),
+            () -> tellingOfStretches(),
+            () -> singing(),
+            () -> sheet(),
+            () -> sheetRefusals(),
+            () -> lose(),
+            () -> put(),
+            () -> putRefusals(),
+            () -> cell(),
+            () -> cellLost(),
+            () -> copy(),
+            () -> copyAsTheyWere(),
+            () -> copyRefusals(),
+            () -> tell(),
+            () -> sing(),
+            () -> as(),
+            () -> trace(),
+            () -> faultOfLatest(),
+            () -> faultAtFirst(),
+            () -> many());
         c.end();
     }
 

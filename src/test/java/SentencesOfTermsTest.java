@@ -8,26 +8,27 @@ public final class SentencesOfTermsTest extends Sentences {
     private static final List<State.Failing> FAILING = new ArrayList<>();
 
     public static void main(String[] args) {
-        manyCalls();
-        constants();
         failingCallsOfNet();
         failingCallsOfWalks();
         failingCallsOfSheets();
-        unknownPlaces();
-        unknownStretches();
-        unknownSheets();
-        refusalsInOrder();
-        refusalsChangeNothing();
-        refusalsAndFault();
-        numbersOfFaults();
-        indexOfNone();
-        faultsInOrder();
-        faultsAnswer();
-        faultsChangeNothing();
-        faultTellsIt();
-        none();
-        shares();
-        sharesOfNothing();
+        c.run(
+            () -> manyCalls(),
+            () -> constants(),
+            () -> unknownPlaces(),
+            () -> unknownStretches(),
+            () -> unknownSheets(),
+            () -> refusalsInOrder(),
+            () -> refusalsChangeNothing(),
+            () -> refusalsAndFault(),
+            () -> numbersOfFaults(),
+            () -> indexOfNone(),
+            () -> faultsInOrder(),
+            () -> faultsAnswer(),
+            () -> faultsChangeNothing(),
+            () -> faultTellsIt(),
+            () -> none(),
+            () -> shares(),
+            () -> sharesOfNothing());
         c.end();
     }
 

@@ -1,23 +1,24 @@
 /** The sentences of trails and dawdling: terms 4, and promises 15 to 18. */
 public final class SentencesOfTrailsTest extends Sentences {
     public static void main(String[] args) {
-        readingsAtMost();
-        mud();
-        mudOfAnother();
-        trailsAreWalksHome();
-        trailsOfLength();
-        trailsInMinutes();
-        allReadings();
-        firstTrail();
-        dawdling();
-        dawdlingStays();
-        dawdlingJust();
-        reading();
-        back();
-        trails();
-        trailsRefusals();
-        dawdle();
-        dawdleLost();
+        c.run(
+            () -> readingsAtMost(),
+            () -> mud(),
+            () -> mudOfAnother(),
+            () -> trailsAreWalksHome(),
+            () -> trailsOfLength(),
+            () -> trailsInMinutes(),
+            () -> allReadings(),
+            () -> firstTrail(),
+            () -> dawdling(),
+            () -> dawdlingStays(),
+            () -> dawdlingJust(),
+            () -> reading(),
+            () -> back(),
+            () -> trails(),
+            () -> trailsRefusals(),
+            () -> dawdle(),
+            () -> dawdleLost());
         c.end();
     }
 

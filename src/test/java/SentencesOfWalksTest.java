@@ -1,25 +1,26 @@
 /** The sentences of walks: terms 2, and promises 8 and 9. */
 public final class SentencesOfWalksTest extends Sentences {
     public static void main(String[] args) {
-        fromTheSchool();
-        eitherWay();
-        firstWrong();
-        minutes();
-        sights();
-        late();
-        costByLaw0();
-        costByLaw1();
-        costByLaw2();
-        joy();
-        safety();
-        safetyOfAll();
-        walkAnswers();
-        walkWrong();
-        walkRefusals();
-        walkLengths();
-        walkUnknownStretch();
-        safeAnswers();
-        safeLost();
+        c.run(
+            () -> fromTheSchool(),
+            () -> eitherWay(),
+            () -> firstWrong(),
+            () -> minutes(),
+            () -> sights(),
+            () -> late(),
+            () -> costByLaw0(),
+            () -> costByLaw1(),
+            () -> costByLaw2(),
+            () -> joy(),
+            () -> safety(),
+            () -> safetyOfAll(),
+            () -> walkAnswers(),
+            () -> walkWrong(),
+            () -> walkRefusals(),
+            () -> walkLengths(),
+            () -> walkUnknownStretch(),
+            () -> safeAnswers(),
+            () -> safeLost());
         c.end();
     }
 
@@ -196,9 +197,9 @@ public final class SentencesOfWalksTest extends Sentences {
             + " 100000 (3)");
         for (int lane = 0; lane < 3; lane++) {
             HomeByFour x = Check.withNet(Check.FOUR);
-            x.due(10);
-            Check.write(x, 1, lane, 9, 1, 2, 3, 9);
-            int[][] want = {{0, 0, 0, 100000}, {1, 2, 9, 100009}, {2, 8, 14, 100014}, {3, 11, 15, 100014}};
+            x.due(9);
+            Check.write(x, 1, lane, 9, 1, 4, 3, 9);
+            int[][] want = {{0, 0, 0, 100000}, {1, 2, 9, 100009}, {3, 7, 11, 100011}, {2, 10, 12, 100011}};
             for (int n = 0; n <= 3; n++) {
                 for (int what = 0; what < 4; what++) {
                     c.due("walk of " + n + ", what " + what, x.walk(1, lane, 1, n, what), want[n][what]);

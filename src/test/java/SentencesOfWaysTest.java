@@ -1,22 +1,23 @@
 /** The sentences of the quickest, the best and the safest: terms 3, and promises 10 to 14. */
 public final class SentencesOfWaysTest extends Sentences {
     public static void main(String[] args) {
-        leastMinutes();
-        leastMinutesVia();
-        endAtHome();
-        atMostFive();
-        mostJoy();
-        mostSafe();
-        fewestThenFirst();
-        fewestThenFirstOfSafest();
-        worthOfStretch();
-        quickest();
-        via();
-        best();
-        bestRefusals();
-        safest();
-        safestRefusals();
-        worth();
+        c.run(
+            () -> leastMinutes(),
+            () -> leastMinutesVia(),
+            () -> endAtHome(),
+            () -> atMostFive(),
+            () -> mostJoy(),
+            () -> mostSafe(),
+            () -> fewestThenFirst(),
+            () -> fewestThenFirstOfSafest(),
+            () -> worthOfStretch(),
+            () -> quickest(),
+            () -> via(),
+            () -> best(),
+            () -> bestRefusals(),
+            () -> safest(),
+            () -> safestRefusals(),
+            () -> worth());
         c.end();
     }
 
