@@ -23,6 +23,7 @@ public final class SentencesOfNetTest extends Sentences {
             () -> sharedHasNoDanger(),
             () -> newObject(),
             () -> netAnswers(),
+            () -> netNotTaken(),
             () -> netRefusals(),
             () -> ofStretch(),
             () -> due(),
@@ -336,6 +337,22 @@ public final class SentencesOfNetTest extends Sentences {
                 c.due("from 0 on", x.net(sheet, lane, 0, 9), -103);
                 c.due("it stays", x.many(1), 1);
             }
+        }
+    }
+
+    private static void netNotTaken() {
+        c.sentence("-100 less the FIRST FAULT.");
+        String[] texts = {"", "x", "n", "n9", "n3", "n3;", "n3;s", "n3;s0", "n3;s00", "n3;s01", "n3;s010", "n3;s011",
+            "n3;s01100;", "n3;s01100x"};
+        int[] faults = {0, 0, 1, 1, 2, 3, 4, 5, 5, 6, 6, 7, 10, 9};
+        for (int k = 0; k < texts.length; k++) {
+            HomeByFour x = State.full();
+            State.fail(x, 4);
+            c.due("net of " + texts[k], Check.netOf(x, texts[k]), -100 - faults[k]);
+            c.due("it is no FAULT", x.fault(), 0);
+            HomeByFour same = State.full();
+            Check.write(same, 0, 0, texts[k].chars().toArray());
+            c.dueTrue("all but the sheet stays", State.seen(x).equals(State.seen(same)));
         }
     }
 

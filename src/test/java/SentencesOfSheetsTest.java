@@ -1,3 +1,5 @@
+import java.util.function.ToLongFunction;
+
 /** The sentences of sheets and of telling: terms 5, and promises 19 to 29. */
 public final class SentencesOfSheetsTest extends Sentences {
     private static final String KINDS = "n2;s01500;m01500;p01500";
@@ -25,6 +27,7 @@ public final class SentencesOfSheetsTest extends Sentences {
             () -> as(),
             () -> trace(),
             () -> faultOfLatest(),
+            () -> faultOfNone(),
             () -> faultAtFirst(),
             () -> many());
         c.end();
@@ -463,6 +466,28 @@ public final class SentencesOfSheetsTest extends Sentences {
         State.fail(x, 4);
         c.due("a FIRST WRONG", x.walk(1, 1, 0, 1, 0), -100);
         c.due("0", x.fault(), 0);
+    }
+
+    private static void dueOfNoFault(String call, ToLongFunction<HomeByFour> deed, long want) {
+        for (int before : new int[] {1, 4}) {
+            HomeByFour x = Check.withNet(Check.FOUR);
+            State.fail(x, before);
+            c.due(call, deed.applyAsLong(x), want);
+            c.due("fault() behind " + call, x.fault(), 0);
+        }
+    }
+
+    private static void faultOfNone() {
+        c.sentence("0: it came to none");
+        dueOfNoFault("net", x -> x.net(0, 0, 0, 37), 5);
+        dueOfNoFault("net, a FIRST FAULT", x -> x.net(0, 0, 0, 36), -136);
+        dueOfNoFault("walk", x -> x.walk(0, 0, 37, 0, 0), 0);
+        dueOfNoFault("safe", x -> x.safe(0, 0, 37, 0, 0), 1);
+        dueOfNoFault("sheet", x -> x.sheet(3, 0, 0), 1);
+        dueOfNoFault("put", x -> x.put(0, 0, 1), 1);
+        dueOfNoFault("cell", x -> x.cell(0, 0, 0), 110);
+        dueOfNoFault("copy", x -> x.copy(0, 0, 0, 0, 37), 37);
+        dueOfNoFault("as", x -> x.as(2, 2), 1);
     }
 
     private static void faultAtFirst() {

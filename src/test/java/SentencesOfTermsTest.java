@@ -17,6 +17,7 @@ public final class SentencesOfTermsTest extends Sentences {
             () -> unknownPlaces(),
             () -> unknownStretches(),
             () -> unknownSheets(),
+            () -> outsideStateFull(),
             () -> refusalsInOrder(),
             () -> refusalsChangeNothing(),
             () -> refusalsAndFault(),
@@ -252,6 +253,39 @@ public final class SentencesOfTermsTest extends Sentences {
         c.due("the last one, walk", x.walk(3, 1, 0, 0, 0), 0);
         c.due("the last one, net", x.net(3, 1, 0, 0), -100);
         c.due("the last one, lose", x.lose(3), 1);
+    }
+
+    private static void outsideStateFull() {
+        c.sentence("OUTSIDE (another number is not as told), STATE (as told), FULL");
+        HomeByFour x = new HomeByFour();
+        c.due("STATE, due", x.due(45), -3);
+        c.due("STATE, law", x.law(0), -3);
+        c.due("STATE, friend", x.friend(-9), -3);
+        c.due("STATE, best", x.best(5, 4), -3);
+        c.due("STATE, safest", x.safest(5, 4), -3);
+        c.due("STATE, trails", x.trails(5, 200, 4), -3);
+        x.sheet(0, 0, 0);
+        c.due("STATE, walk", x.walk(0, 0, 0, 0, 0), -3);
+        Check.netOf(x, Check.FOUR);
+        c.due("OUTSIDE, ofStretch", x.ofStretch(0, 8), -2);
+        c.due("OUTSIDE, due", x.due(100), -2);
+        c.due("OUTSIDE, law", x.law(3), -2);
+        c.due("OUTSIDE, walk", x.walk(0, 0, 0, 0, 4), -2);
+        c.due("OUTSIDE, best", x.best(6, 0), -2);
+        c.due("OUTSIDE, safest", x.safest(0, 0), -2);
+        c.due("OUTSIDE, back", x.back(1), -2);
+        c.due("OUTSIDE, trails", x.trails(1, 201, 0), -2);
+        c.due("OUTSIDE, net", x.net(0, 3, 0, 0), -2);
+        c.due("OUTSIDE, sheet", x.sheet(0, 0, 61), -2);
+        c.due("OUTSIDE, as", x.as(0, 3), -2);
+        c.due("OUTSIDE, many", x.many(5), -2);
+        for (int r = 0; r < 8; r++) {
+            x.reading(0, false);
+        }
+        c.due("FULL, reading", x.reading(0, false), -4);
+        x.back(1);
+        c.due("no longer FULL", x.reading(0, false), 7);
+        c.due("no longer STATE", x.due(1), 45);
     }
 
     private static void refusalsInOrder() {

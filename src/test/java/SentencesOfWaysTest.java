@@ -50,6 +50,9 @@ public final class SentencesOfWaysTest extends Sentences {
         c.due("the longest", x.quickest(6), 120);
         x.friend(6);
         c.due("the longest, shared", x.quickest(6), 126);
+        x = Check.withNet("n7;s06200;s65300;s45100");
+        c.due("by the last place, on", x.quickest(5), 5);
+        c.due("by the last place, further on", x.quickest(4), 6);
     }
 
     private static void leastMinutesVia() {
