@@ -5,6 +5,7 @@ import java.lang.reflect.Method;
 import java.lang.reflect.Modifier;
 import java.nio.file.Files;
 import java.nio.file.Path;
+import java.util.List;
 import java.util.Set;
 import java.util.TreeSet;
 import java.util.regex.Matcher;
@@ -50,6 +51,7 @@ public final class FaceTest {
         constants();
         classesInside();
         source(Files.readString(SOURCE));
+        lengths(Files.readAllLines(SOURCE));
         c.end();
     }
 
@@ -134,6 +136,23 @@ public final class FaceTest {
         dueOfLibrary(code, "Long", Set.of("MIN_VALUE"));
         dueOfLibrary(code, "Integer", Set.of());
         c.dueTrue("signs 10, 32 to 126", text.chars().allMatch(sign -> sign == 10 || sign >= 32 && sign < 127));
+    }
+
+    /** A method begins with a line that ends in an opening brace, and ends with a brace as far from the edge. */
+    private static void lengths(List<String> lines) {
+        c.part("rule 11");
+        int begun = 0;
+        String edge = "";
+        for (int k = 0; k < lines.size(); k++) {
+            String line = lines.get(k);
+            if (line.matches(" +[\\w\\[\\] ]*\\w\\([\\w\\[\\], ]*\\) \\{") && !line.matches(" +(if|for|switch) .*")) {
+                begun = k;
+                edge = line.substring(0, line.length() - line.stripLeading().length());
+            } else if (begun != 0 && line.equals(edge + "}")) {
+                c.dueTrue("some sixty lines at most:" + lines.get(begun), k - begun < 60);
+                begun = 0;
+            }
+        }
     }
 
     private static void dueOfLibrary(String code, String name, Set<String> listed) {
